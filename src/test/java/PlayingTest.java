@@ -320,6 +320,7 @@ final class PlayingTest {
         Check.same("note", 60, x.channel(0, 3));
         Songs.hears("stolen", x, 0, 15375);
         Check.same("ticks then", 1, x.channel(0, 2));
+        Check.same("note for the last tick", 60, x.channel(0, 3));
         Check.same("pitch goes on", 80, x.channel(0, 0));
         Songs.hears("stolen still", x, 0, 15375);
         Check.same("no ticks left", 0, x.channel(0, 2));
