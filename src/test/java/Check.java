@@ -2,23 +2,27 @@
 final class Check {
     private static int checked = 0;
     private static int wrong = 0;
+    private static String subject = "";
 
     private Check() {
+    }
+
+    /** What the checks that follow are of; it stands in front of what is wrong. */
+    static void begin(String of) {
+        subject = of.isEmpty() ? "" : "[" + of + "] ";
     }
 
     static void same(String what, long due, long got) {
         checked++;
         if (due != got) {
-            wrong++;
-            System.out.println(what + ": answered " + got + ", due is " + due);
+            tell(what + ": answered " + got + ", due is " + due);
         }
     }
 
     static void same(String what, double due, double got) {
         checked++;
         if (due != got) {
-            wrong++;
-            System.out.println(what + ": answered " + got + ", due is " + due);
+            tell(what + ": answered " + got + ", due is " + due);
         }
     }
 
@@ -49,10 +53,14 @@ final class Check {
             thrown = e.getClass();
         }
         if (thrown != due) {
-            wrong++;
-            System.out.println(what + ": threw " + thrown + ", due is " + due);
+            tell(what + ": threw " + thrown + ", due is " + due);
         }
         same(what + " changes nothing", before, x.digest());
+    }
+
+    private static void tell(String fault) {
+        wrong++;
+        System.out.println(subject + fault);
     }
 
     static int wrong() {

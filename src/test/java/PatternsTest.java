@@ -199,14 +199,15 @@ final class PatternsTest {
     }
 
     private static void cell() {
-        ChannelLoom x = new ChannelLoom();
         for (int pattern = 0; pattern < 6; pattern++) {
+            ChannelLoom empty = new ChannelLoom();
             for (int row = 0; row < 8; row++) {
                 for (int channel = 0; channel < 4; channel++) {
-                    Songs.cell("an empty cell", x, pattern, row, channel, 0, 15, 0, 0);
+                    Songs.cell("an empty cell", empty, pattern, row, channel, 0, 15, 0, 0);
                 }
             }
         }
+        ChannelLoom x = new ChannelLoom();
         x.setNote(4, 6, 2, 60, 1);
         x.setEffect(4, 6, 2, 7, 3);
         Songs.cell("cell", x, 4, 6, 2, 60, 1, 7, 3);

@@ -1,41 +1,24 @@
-/** Promises 1, 25 and 26. */
+/** Promise 25, and that objects are apart. */
 final class StateTest {
     private StateTest() {
     }
 
     static void run() {
-        newObject();
+        apart();
         undo();
         undoableCalls();
         undoBringsAllBack();
-        digest();
     }
 
-    private static void newObject() {
+    private static void apart() {
         ChannelLoom x = new ChannelLoom();
-        int[] values = {0, 0, 0, 3, 0, 0, 1, 0};
-        for (int what = 0; what < 8; what++) {
-            Check.same("a new object's value " + what, values[what], x.value(what));
-        }
-        int[] channel = {0, 0, 0, -1, 0, -1, -1, 0};
-        for (int i = 0; i < 32; i++) {
-            Check.same("a new object's channel " + i / 8 + " fact " + i % 8, channel[i % 8], x.channel(i / 8, i % 8));
-        }
-        for (int pattern = 0; pattern < 6; pattern++) {
-            int inOrder = pattern == 0 ? 1 : 0;
-            int[] facts = {4, 0, 0, inOrder, inOrder};
-            for (int what = 0; what < 5; what++) {
-                Check.same("a new object's pattern " + pattern + " fact " + what, facts[what], x.pattern(pattern, what));
-            }
-        }
-        Check.same("a new object's text", 0, x.clearText());
-        Check.refused(x, "a new object's undo", x::undo);
-        Check.same("a new object's digest", Songs.digest(x, 0, 0), x.digest());
         ChannelLoom y = new ChannelLoom();
+        long before = y.digest();
         x.setNote(0, 0, 0, 5, 5);
         x.play(1);
-        Check.same("objects are apart", Songs.digest(y, 0, 0), new ChannelLoom().digest());
-        Check.same("objects are apart, too", 0, y.cell(0, 0, 0, 0));
+        Check.same("objects are apart", before, y.digest());
+        Check.same("a new object is apart from those before", before, new ChannelLoom().digest());
+        Check.same("the note of another object", 0, y.cell(0, 0, 0, 0));
     }
 
     private static void undo() {
@@ -116,8 +99,6 @@ final class StateTest {
         x.steal(3, 4, 60);
         x.steal(2, 8, 3);
         x.play(7);
-        long before = Songs.digest(x, 11, 4);
-        Check.same("the digest before", before, x.digest());
         int heard = x.hashOf(500);
         x.play(500);
         x.restart();
@@ -127,7 +108,6 @@ final class StateTest {
         for (int i = 0; i < 4; i++) {
             x.undo();
         }
-        Check.same("the digest behind four undos", Songs.digest(x, 9, 0), x.digest());
         Check.same("what would be heard then", heard, x.hashOf(500));
         x.clearText();
         x.append('0');
@@ -144,33 +124,5 @@ final class StateTest {
         y.undo();
         Songs.hears("the row behind undo", y, 0, 0, Songs.tone(10, 3));
         Songs.frames("the call behind undo", y, 1, 1, 3, 0);
-    }
-
-    private static void digest() {
-        ChannelLoom x = new ChannelLoom();
-        Check.same("digest at first", Songs.digest(x, 0, 0), x.digest());
-        x.append('0');
-        Check.same("digest with a text", Songs.digest(x, 1, 0), x.digest());
-        Songs.parsed(x, "0:1e1,2e2,3f2,4f1/5a3/6,7g5");
-        Check.same("digest behind parse", Songs.digest(x, 27, 1), x.digest());
-        Songs.parsed(x, "1:9e2/8");
-        x.setRows(5, 8);
-        x.setNote(5, 7, 3, 61, 0);
-        x.setEffect(5, 7, 3, 7, 9);
-        Check.same("digest of a written song", Songs.digest(x, 7, 4), x.digest());
-        x.setRows(5, 7);
-        x.setOrder(1, 5);
-        x.setOrder(2, 3);
-        x.steal(2, 60, 99);
-        x.play(50);
-        Check.same("digest of a played song", Songs.digest(x, 7, 4), x.digest());
-        x.undo();
-        Check.same("digest behind undo", Songs.digest(x, 7, 3), x.digest());
-        Check.same("digest again", x.digest(), x.digest());
-        x.setRows(5, 4);
-        x.setNote(5, 6, 0, 1, 1);
-        long hidden = x.digest();
-        x.setNote(5, 6, 0, 2, 2);
-        Check.same("cells beyond the rows don't count", hidden, x.digest());
     }
 }

@@ -76,25 +76,26 @@ final class TextTest {
         Songs.cell("the other channels are empty", x, 0, 0, 3, 0, 15, 0, 0);
         Songs.cell("rows beyond are empty", x, 0, 7, 0, 0, 15, 0, 0);
         Songs.cell("rows beyond are empty, too", x, 0, 1, 1, 0, 15, 0, 0);
-        cellOf(x, "0", 0, 15, 0, 0);
-        cellOf(x, "00", 0, 15, 0, 0);
-        cellOf(x, "07", 7, 15, 0, 0);
-        cellOf(x, "10", 10, 15, 0, 0);
-        cellOf(x, "9v0", 9, 0, 0, 0);
-        cellOf(x, "9v00", 9, 0, 0, 0);
-        cellOf(x, "9v07", 9, 7, 0, 0);
-        cellOf(x, "9v15", 9, 15, 0, 0);
-        cellOf(x, "59v10", 59, 10, 0, 0);
-        cellOf(x, "0v1", 0, 1, 0, 0);
+        cellOf("0", 0, 15, 0, 0);
+        cellOf("00", 0, 15, 0, 0);
+        cellOf("07", 7, 15, 0, 0);
+        cellOf("10", 10, 15, 0, 0);
+        cellOf("9v0", 9, 0, 0, 0);
+        cellOf("9v00", 9, 0, 0, 0);
+        cellOf("9v07", 9, 7, 0, 0);
+        cellOf("9v15", 9, 15, 0, 0);
+        cellOf("59v10", 59, 10, 0, 0);
+        cellOf("0v1", 0, 1, 0, 0);
         for (int effect = 1; effect <= 7; effect++) {
-            cellOf(x, "20" + (char) ('a' + effect - 1) + "0", 20, 15, effect, 0);
-            cellOf(x, "2v3" + (char) ('a' + effect - 1) + effect, 2, 3, effect, effect);
+            cellOf("20" + (char) ('a' + effect - 1) + "0", 20, 15, effect, 0);
+            cellOf("2v3" + (char) ('a' + effect - 1) + effect, 2, 3, effect, effect);
         }
-        cellOf(x, "61a9", 61, 15, 1, 9);
-        cellOf(x, "61v14g8", 61, 14, 7, 8);
+        cellOf("61a9", 61, 15, 1, 9);
+        cellOf("61v14g8", 61, 14, 7, 8);
     }
 
-    private static void cellOf(ChannelLoom x, String text, int... due) {
+    private static void cellOf(String text, int... due) {
+        ChannelLoom x = new ChannelLoom();
         Check.same("parse of " + text, 4, Songs.parsed(x, "4:.,.,.,./.,.," + text));
         Songs.cell(text, x, 4, 1, 2, due);
     }
@@ -207,7 +208,8 @@ final class TextTest {
         Check.same("a hundred bytes that end too early", -110, Songs.parsed(x, most + "/.,"));
         Check.same("a hundred bytes", 5, Songs.parsed(x, most + "/12"));
         Songs.cell("the last cell of a hundred bytes", x, 5, 3, 0, 12, 15, 0, 0);
-        Check.same("a number out of its range at the end", -10 - 98, Songs.parsed(x, most + "/70"));
+        ChannelLoom y = new ChannelLoom();
+        Check.same("a number out of its range at the end", -10 - 98, Songs.parsed(y, most + "/70"));
     }
 
     /** Which bytes can follow, at each kind of place. */
@@ -229,8 +231,8 @@ final class TextTest {
     }
 
     private static void follow(String begin, String good) {
-        ChannelLoom x = new ChannelLoom();
         for (int value = 0; value < 128; value++) {
+            ChannelLoom x = new ChannelLoom();
             Songs.write(x, begin);
             x.append(value);
             int answer = x.parse();
